@@ -60,6 +60,7 @@ public final class SixJoints {
     private final Solver solver = new Solver();
     private final Held held = new Held();
     private final Held drawn = new Held();
+    private final int[] drawnPlace = new int[JOINTS];
     private final Planner planner = new Planner(solver);
     private final Rounds rounds = new Rounds();
     private final Span span = new Span();
@@ -103,9 +104,13 @@ public final class SixJoints {
             return NO_WAY;
         }
         taped = 0;
-        int lines = reader.readAll(tape, n, draft);
-        if (lines == NONE) {
-            return NONE;
+        reader.begin(tape, n, draft);
+        int lines = 0;
+        while (lines <= n && reader.startsLine()) {
+            if (!reader.readLine()) {
+                return NONE;
+            }
+            lines++;
         }
         Arm former = arm;
         arm = draft;
@@ -435,7 +440,8 @@ public final class SixJoints {
         if (what == 3) {
             return Posture.measure(by) == 0 ? 1 : 0;
         }
-        solver.solvePosture(arm, by, drawn);
+        arm.placeOf(by, drawnPlace);
+        solver.solve(arm, drawnPlace, drawn);
         if (what == 0) {
             return drawn.tooMany() ? 1 : 0;
         }
@@ -573,14 +579,14 @@ public final class SixJoints {
             return kind != 0 && kind == kind(b);
         }
 
-        /** One bit for each pair of SIDE and BEND; 0 if SINGULAR. */
+        /**
+         * One bit for each pair of SIDE and BEND; 0 if SINGULAR. A SINE is 0 by every 32, above 0 by 1 .. 31,
+         * and the 64 that a JOINT has more makes no difference: the numbers' own bits tell.
+         */
         static int kind(long posture) {
-            int side = side(posture);
-            int bend = bend(posture);
-            if (side == 0 || bend == 0) {
-                return 0;
-            }
-            return 1 << ((side > 0 ? 2 : 0) + (bend > 0 ? 1 : 0));
+            int turn = (int) (posture >>> 32) & 63;
+            int elbow = (int) (posture >>> 16) & 63;
+            return (turn & 31) == 0 || (elbow & 31) == 0 ? 0 : 1 << (2 * (turn >>> 5) + (elbow >>> 5));
         }
 
         static int numberAlong(long from, long to, int joint, int t, int ticks) {
@@ -701,7 +707,8 @@ public final class SixJoints {
         int ticksBelow(long from, long to, int bound) {
             int most = 0;
             for (int joint = 0; joint < JOINTS && most < bound; joint++) {
-                int way = Math.abs(Posture.number(from, joint) - Posture.number(to, joint));
+                int shift = 40 - 8 * joint;
+                int way = Math.abs((int) (from >>> shift & 255L) - (int) (to >>> shift & 255L));
                 int pace = speed[joint];
                 if (pace > 0 && way > most * pace) {
                     most = (way + pace - 1) / pace;
@@ -724,18 +731,17 @@ public final class SixJoints {
         private static final int HAND = 1;
         private static final int HEIGHT = 2;
         private static final int BLEND = 3;
-        private static final int SEED = 4;
         private static final int REST = 5;
         private static final int LIMIT = 6;
         private static final int SPEED = 7;
         private static final int SPOT = 8;
-        private static final int GO = 9;
-        // The words of the language in the order of these numbers, packed as named() takes letters.
+        // link, hand, height, blend, seed, rest, limit, speed, spot, go: as named() takes letters, so that
+        // a word is one number and no text need be made of it.
         private static final int[] WORDS = {412560384, 269946880, 273980692, 79870080, 642945024,
             609865728, 412526208, 654480512, 654823424, 250609664};
         private static final int LIMITS_TOLD = 10;
         private static final int SPEEDS_TOLD = 16;
-        // Beyond every number that a TEXT may hold, and far from what an int can't.
+        // Beyond every number that a TEXT may hold, and ten times it is an int still.
         private static final int HUGE = 1000000;
 
         int wrong;
@@ -749,7 +755,7 @@ public final class SixJoints {
         private int told;
         private Arm arm;
 
-        int readAll(byte[] from, int n, Arm into) {
+        void begin(byte[] from, int n, Arm into) {
             bytes = from;
             length = Math.min(n, from.length);
             next = 0;
@@ -758,18 +764,11 @@ public final class SixJoints {
             wrongAt = NONE;
             arm = into;
             arm.forget();
-            int lines = 0;
-            for (int i = 0; i <= length; i++) {
-                advance();
-                if (kind == END) {
-                    break;
-                }
-                if (!readLine()) {
-                    return NONE;
-                }
-                lines++;
-            }
-            return lines;
+        }
+
+        boolean startsLine() {
+            advance();
+            return kind != END;
         }
 
         private boolean refuse(int why) {
@@ -778,7 +777,7 @@ public final class SixJoints {
             return false;
         }
 
-        private boolean readLine() {
+        boolean readLine() {
             int word = kind == WORD ? languageWord() : NONE;
             if (word == NONE) {
                 return refuse(1);
@@ -834,12 +833,8 @@ public final class SixJoints {
             return true;
         }
 
-        private boolean readJoint(int toldFrom) {
-            return readNumber(0, JOINTS - 1, false) && tellOnce(toldFrom + value);
-        }
-
         private boolean readLimit() {
-            if (!readJoint(LIMITS_TOLD)) {
+            if (!readNumber(0, JOINTS - 1, false) || !tellOnce(LIMITS_TOLD + value)) {
                 return false;
             }
             int joint = value;
@@ -855,7 +850,7 @@ public final class SixJoints {
         }
 
         private boolean readSpeed() {
-            if (!readJoint(SPEEDS_TOLD)) {
+            if (!readNumber(0, JOINTS - 1, false) || !tellOnce(SPEEDS_TOLD + value)) {
                 return false;
             }
             int joint = value;
@@ -939,37 +934,28 @@ public final class SixJoints {
             return NONE;
         }
 
-        private int byteAt(int place) {
-            return place < 0 || place >= length ? NONE : bytes[place] & 255;
-        }
-
-        private static boolean isDigit(int sign) {
-            return sign >= '0' && sign <= '9';
-        }
-
-        private static boolean isLetter(int sign) {
-            return sign >= 'a' && sign <= 'z';
+        private boolean hasFromTo(int place, char least, char greatest) {
+            return place < length && bytes[place] >= least && bytes[place] <= greatest;
         }
 
         private void advance() {
-            while (next < length && (byteAt(next) == ' ' || byteAt(next) == '\n')) {
+            while (next < length && (bytes[next] == ' ' || bytes[next] == '\n')) {
                 next++;
             }
             start = next;
-            int sign = byteAt(next);
-            if (sign == NONE) {
+            if (next >= length) {
                 kind = END;
-            } else if (isLetter(sign)) {
+            } else if (hasFromTo(next, 'a', 'z')) {
                 takeWord();
-            } else if (isDigit(sign)) {
+            } else if (hasFromTo(next, '0', '9')) {
                 kind = DIGITS;
                 value = takeDigits();
-            } else if (sign == '-' && isDigit(byteAt(next + 1))) {
+            } else if (bytes[next] == '-' && hasFromTo(next + 1, '0', '9')) {
                 next++;
                 kind = MINUS_DIGITS;
                 value = -takeDigits();
             } else {
-                kind = sign == ';' ? SEMICOLON : BAD;
+                kind = bytes[next] == ';' ? SEMICOLON : BAD;
                 next++;
             }
         }
@@ -977,9 +963,9 @@ public final class SixJoints {
         private void takeWord() {
             int letters = 0;
             value = 0;
-            while (next < length && isLetter(byteAt(next))) {
+            while (hasFromTo(next, 'a', 'z')) {
                 if (letters < 6) {
-                    value |= (byteAt(next) - 'a' + 1) << (25 - 5 * letters);
+                    value |= (bytes[next] - 'a' + 1) << (25 - 5 * letters);
                 }
                 letters++;
                 next++;
@@ -989,8 +975,8 @@ public final class SixJoints {
 
         private int takeDigits() {
             int number = 0;
-            while (next < length && isDigit(byteAt(next))) {
-                number = Math.min(HUGE, number * 10 + byteAt(next) - '0');
+            while (hasFromTo(next, '0', '9')) {
+                number = Math.min(HUGE, number * 10 + bytes[next] - '0');
                 next++;
             }
             return number;
@@ -1024,8 +1010,8 @@ public final class SixJoints {
         }
 
         // Beyond what is listed they are counted still: whether one of them is KEPT is asked as well.
-        void add(long posture) {
-            kinds |= Posture.kind(posture);
+        void add(long posture, int kind) {
+            kinds |= kind;
             if (total < MOST_SOLUTIONS) {
                 if (total >= list.length) {
                     list = Arrays.copyOf(list, Math.min(MOST_SOLUTIONS, 2 * list.length));
@@ -1073,7 +1059,6 @@ public final class SixJoints {
 
         private Arm arm;
         private Held into;
-        private final int[] wanted = new int[JOINTS];
         private final int[] target = new int[JOINTS];
         private int folds;
         private final int[] shoulders = new int[MOST_FOLDS];
@@ -1082,11 +1067,6 @@ public final class SixJoints {
         private final int[] outs = new int[MOST_FOLDS];
         private final int[] behind = new int[101];
         private long[] sorted = new long[16];
-
-        void solvePosture(Arm by, long posture, Held held) {
-            by.placeOf(posture, wanted);
-            solve(by, wanted, held);
-        }
 
         void solve(Arm by, int[] place, Held held) {
             arm = by;
@@ -1219,16 +1199,13 @@ public final class SixJoints {
                 posture = Posture.with(posture, SHOULDER, shoulders[fold]);
                 posture = Posture.with(posture, ELBOW, elbows[fold]);
                 posture = Posture.with(posture, WRIST, wrists[fold]);
-                offerRoll(posture, roll - 64);
-                offerRoll(posture, roll);
-            }
-        }
-
-        private void offerRoll(long posture, int roll) {
-            if (arm.allows(ROLL, roll)) {
-                into.add(Posture.with(posture, ROLL, roll));
-            } else {
-                into.failedBy(ROLL);
+                for (int full = roll - 64; full <= roll; full += 64) {
+                    if (arm.allows(ROLL, full)) {
+                        into.add(Posture.with(posture, ROLL, full), Posture.kind(posture));
+                    } else {
+                        into.failedBy(ROLL);
+                    }
+                }
             }
         }
 
@@ -1402,6 +1379,7 @@ public final class SixJoints {
     private static final class Planner {
         private final Solver solver;
         private Arm arm;
+        private final int[] place = new int[JOINTS];
         private final Held[] held = new Held[MOST_SPOTS];
         private final Route plain = new Route();
         private final Route steadily = new Route();
@@ -1417,6 +1395,9 @@ public final class SixJoints {
 
         Planner(Solver by) {
             solver = by;
+            for (int spot = 0; spot < MOST_SPOTS; spot++) {
+                held[spot] = new Held();
+            }
         }
 
         void begin(Arm of) {
@@ -1452,24 +1433,18 @@ public final class SixJoints {
             all = 0;
             for (int i = 0; i < arm.stops; i++) {
                 int spot = arm.way[i];
-                Held of = heldOf(spot);
+                Held of = held[spot];
                 if ((solved >>> spot & 1) == 0) {
-                    solver.solvePosture(arm, arm.postures[spot], of);
+                    arm.placeOf(arm.postures[spot], place);
+                    solver.solve(arm, place, of);
                     solved |= 1 << spot;
                 }
-                none |= of.total == 0;
-                tooMany |= of.tooMany();
+                none = none || of.total == 0;
+                tooMany = tooMany || of.tooMany();
                 first[i] = all;
                 all += Math.min(of.total, MOST_SOLUTIONS);
             }
             obstacle = none ? NO_WAY : tooMany ? TOO_MANY : 0;
-        }
-
-        private Held heldOf(int spot) {
-            if (held[spot] == null) {
-                held[spot] = new Held();
-            }
-            return held[spot];
         }
 
         private void choose(Route route, boolean steady) {
@@ -1481,7 +1456,7 @@ public final class SixJoints {
                     route.ticks = NO_WAY;
                     return;
                 }
-                long to = heldOf(arm.way[i]).list[pick];
+                long to = held[arm.way[i]].list[pick];
                 route.goTo(i, pick, to, arm.ticks(from, to));
                 from = to;
             }
@@ -1509,7 +1484,7 @@ public final class SixJoints {
         private void fillLeft(int[] left, boolean steady) {
             Arrays.fill(left, 0);
             for (int i = arm.stops - 2; i >= 0; i--) {
-                Held of = heldOf(arm.way[i]);
+                Held of = held[arm.way[i]];
                 for (int k = 0; k < of.total; k++) {
                     pickNext(of.list[k], i + 1, left, steady);
                     left[first[i] + k] = fewest;
@@ -1519,12 +1494,16 @@ public final class SixJoints {
 
         /** The first SOLUTION of stop i by which all TICKS from here on are fewest (as told by a field). */
         private int pickNext(long from, int i, int[] left, boolean steady) {
-            Held to = heldOf(arm.way[i]);
+            Held to = held[arm.way[i]];
+            int kind = Posture.kind(from);
             int pick = NONE;
             fewest = FAR;
+            if (steady && kind == 0) {
+                return NONE;
+            }
             for (int k = 0; k < to.total; k++) {
                 int behind = left[first[i] + k];
-                if (behind >= fewest || steady && !Posture.kept(from, to.list[k])) {
+                if (behind >= fewest || steady && Posture.kind(to.list[k]) != kind) {
                     continue;
                 }
                 int sum = behind + arm.ticksBelow(from, to.list[k], fewest - behind);

@@ -118,6 +118,7 @@ public final class SolutionTest {
         }
         // the first JOINT at which none is left, though no single limit leaves none
         Check.due("why by TURN and SHOULDER", Check.told("limit 1 0 31;limit 2 13 31;" + rest).why(), 4);
+        Check.due("why by TURN and SHOULDER", Check.told("limit 1 -32 0;limit 2 -32 0;" + rest).why(), 4);
         Check.due("why by RAIL first", Check.told("limit 0 0 2;limit 5 11 11;" + rest).why(), 2);
     }
 
@@ -163,6 +164,11 @@ public final class SolutionTest {
             Check.due("the hand is where it was", x.hand(what), x.aim(what));
         }
         Check.due("solutions stay", x.solutions(), 4);
+        // the same AIM by another TEXT
+        SixJoints y = Check.told("limit 5 0 63;rest 3 16 4 8 2 10;");
+        Check.due("solutions", y.solutions(), 4);
+        Check.tell(y, "limit 5 0 31;rest 3 16 4 8 2 10;");
+        Check.due("solutions by other limits", y.solutions(), 2);
         Check.due("no way", x.way(1, 3), 0);
         Check.due("undo", x.undo(), 0);
         Check.posture(x, 3, 16, 4, 8, 2, 10);
@@ -178,6 +184,7 @@ public final class SolutionTest {
         for (int what = 0; what < 4; what++) {
             Check.due("that of the TEXT", x.chance(-1, 20, what), x.chance(123, 20, what));
         }
+        Check.due("seed 0 is not that of the TEXT", x.chance(0, 20, 1) == x.chance(-1, 20, 1), false);
         Check.due("greatest seed", x.chance(2147483647, 20, 0) + x.chance(2147483647, 20, 2), 20);
         // limits of one number each: the same posture however it is drawn
         SixJoints y = Check.told("limit 0 3 3;limit 1 16 16;limit 2 4 4;limit 3 8 8;limit 4 2 2;limit 5 10 10;");
