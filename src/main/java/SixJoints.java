@@ -1665,7 +1665,7 @@ public final class SixJoints {
                     int elbowOut = arm.link * (cos(a) + cos(b));
                     int elbowRise = 1000 * arm.height + arm.link * (sin(a) + sin(b));
                     if (elbowOut + arm.hand * 1000 >= out && elbowRise + arm.hand * 1000 > best) {
-                        best = Math.max(best, highestByHand(arm, b, out - elbowOut, elbowRise));
+                        best = Math.max(best, highestByHand(arm, b, elbowOut, elbowRise, out));
                     }
                 }
             }
@@ -1673,17 +1673,16 @@ public final class SixJoints {
         }
 
         // From straight up the SINE falls both ways alike: the first angle that serves is the best.
-        private int highestByHand(Arm arm, int b, int out, int rise) {
+        private int highestByHand(Arm arm, int b, int elbowOut, int elbowRise, int out) {
             for (int d = 0; d <= 32; d++) {
-                if (serves(arm, b, UPWARDS - d, out) || serves(arm, b, UPWARDS + d, out)) {
-                    return rise + arm.hand * sin(UPWARDS - d);
+                int less = UPWARDS - d;
+                int more = UPWARDS + d;
+                if (elbowOut + arm.hand * cos(less) >= out && arm.allows(WRIST, within32(less - b))
+                        || elbowOut + arm.hand * cos(more) >= out && arm.allows(WRIST, within32(more - b))) {
+                    return elbowRise + arm.hand * sin(less);
                 }
             }
             return NO_HEIGHT;
-        }
-
-        private boolean serves(Arm arm, int b, int pitch, int out) {
-            return arm.hand * cos(pitch) >= out && arm.allows(WRIST, within32(pitch - b));
         }
     }
 

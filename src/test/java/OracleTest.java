@@ -343,7 +343,7 @@ public final class OracleTest {
             for (int what = -1; what <= 3; what++) {
                 due("reach(" + pitch + ", " + what + ")", x.reach(pitch, what), o.reach(pitch, what));
             }
-            int out = r.nextInt(5) == 0 ? r.nextInt() : in(-1000, 1000) * (2 * o.count(0) + o.count(1));
+            int out = r.nextInt(5) == 0 ? r.nextBoolean() ? r.nextInt() : Integer.MIN_VALUE : in(-1000, 1000) * (2 * o.count(0) + o.count(1));
             due("high(" + out + ")", x.high(out), o.high(out));
         } else if (kind == 38) {
             int seed = r.nextInt(3) == 0 ? -1 : r.nextInt(8) == 0 ? -2 : r.nextInt() & 0x7fffffff;

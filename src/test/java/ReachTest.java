@@ -80,8 +80,12 @@ public final class ReachTest {
         Check.due("hand level", y.high(18000 - 4 * 995), 1000 - 4 * 98);
         Check.due("least OUT at it", y.high(18000 - 4 * 98), 1000 - 4 * 995);
         Check.due("beyond", y.high(18000 - 4 * 98 + 1), NONE);
+        Check.due("whatever OUT", y.high(-2147483648), 1000);
+        Check.due("whatever OUT", y.high(-2147483647), 1000);
+        Check.due("none", y.high(2147483647), NONE);
         SixJoints z = Check.told("limit 2 -16 -16;limit 3 0 0;limit 4 0 0;height 1;");
         Check.due("straight down", z.high(0), 1000 - 22000);
+        Check.due("straight down, whatever OUT", z.high(-2147483648), 1000 - 22000);
         Check.due("none", z.high(1), NONE);
     }
 }

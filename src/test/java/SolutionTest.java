@@ -140,6 +140,11 @@ public final class SolutionTest {
         Check.due("none", x.nearest(false), -2);
         Check.due("none", x.nearest(true), -2);
         Check.due("none", x.clearest(), -2);
+        // from one singular spot to another one no MOVE is KEPT
+        SixJoints s = new SixJoints();
+        Check.due("the same posture", s.way(3, 3), 0);
+        Check.due("not KEPT", s.way(3, 4), 0);
+        Check.due("none is KEPT", s.nearest(true), -2);
         // two ROLLS as near: the first
         SixJoints y = Check.told("limit 1 0 31;limit 3 0 31;rest 3 16 4 8 2 -32;");
         y.set(5, 0);
