@@ -1,11 +1,39 @@
+import java.lang.reflect.InvocationTargetException;
+import java.lang.reflect.Method;
 import java.nio.charset.StandardCharsets;
+import java.util.Arrays;
+import java.util.Comparator;
 
 /** What every test uses: counts the answers that are not as due, and feeds texts. */
 final class Check {
     private static int asked = 0;
     private static int wrong = 0;
+    private static String sentence = "";
 
     private Check() {
+    }
+
+    /** Runs every method of a test that takes and answers nothing, so that none is forgotten, and tells its name. */
+    static void all(Class<?> test) {
+        Method[] methods = test.getDeclaredMethods();
+        Arrays.sort(methods, Comparator.comparing(Method::getName));
+        int run = 0;
+        for (Method m : methods) {
+            if (m.getParameterCount() == 0 && m.getReturnType() == void.class && !m.isSynthetic()) {
+                m.setAccessible(true);
+                sentence = m.getName() + ": ";
+                try {
+                    m.invoke(null);
+                } catch (InvocationTargetException e) {
+                    due("threw " + e.getCause(), 1, 0);
+                } catch (IllegalAccessException e) {
+                    throw new IllegalStateException(e);
+                }
+                run++;
+            }
+        }
+        due("sentences", run > 0, true);
+        end(test.getName());
     }
 
     static void due(String call, long got, long want) {
@@ -13,7 +41,7 @@ final class Check {
         if (got != want) {
             wrong++;
             if (wrong <= 40) {
-                System.out.println(call + " answered " + got + ", due is " + want);
+                System.out.println(sentence + call + " answered " + got + ", due is " + want);
             }
         }
     }
