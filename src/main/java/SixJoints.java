@@ -963,7 +963,7 @@ public final class SixJoints {
         private void takeWord() {
             int letters = 0;
             value = 0;
-            while (hasFromTo(next, 'a', 'z')) {
+            while (next < length && hasFromTo(next, 'a', 'z')) {
                 if (letters < 6) {
                     value |= (bytes[next] - 'a' + 1) << (25 - 5 * letters);
                 }
@@ -975,7 +975,7 @@ public final class SixJoints {
 
         private int takeDigits() {
             int number = 0;
-            while (hasFromTo(next, '0', '9')) {
+            while (next < length && hasFromTo(next, '0', '9')) {
                 number = Math.min(HUGE, number * 10 + bytes[next] - '0');
                 next++;
             }
@@ -1102,15 +1102,11 @@ public final class SixJoints {
             return off == 32 ? (32 - pitch) & 63 : NONE;
         }
 
+        // By PITCH 16 ROLL is less by what TURN is more; else it is more by as much: by PITCH 48 by any number,
+        // otherwise by none or 32.
         private int rollBy(int turn) {
             int off = turn - target[HEADING];
-            if (target[PITCH] == UPWARDS) {
-                return (target[ROLLED] - off) & 63;
-            }
-            if (target[PITCH] == DOWNWARDS) {
-                return (target[ROLLED] + off) & 63;
-            }
-            return (target[ROLLED] + (off & 63)) & 63;
+            return (target[PITCH] == UPWARDS ? target[ROLLED] - off : target[ROLLED] + off) & 63;
         }
 
         private boolean sidewaysFits(int turn) {

@@ -219,6 +219,24 @@ public final class EdgePlaceTest {
         }
     }
 
+    // "whose three others are the same": of all PITCHES the own one by the own TURN, 32 less it by the other way over
+    static void alike_everyPitch() {
+        // OUT is 0: x, y, z are the same by every TURN
+        SixJoints x = Check.told("link 1;hand 1;limit 2 16 16;limit 3 15 15;limit 4 -32 -32;limit 5 0 63;rest 50 3 16 15 -32 7;");
+        Check.due("OUT", x.hand(6), 0);
+        Check.due("PITCH", x.hand(4), 63);
+        for (int pitch = 0; pitch < 64; pitch++) {
+            x.aimBy(4, pitch);
+            Check.due("by PITCH " + pitch, x.solutions(), pitch == 63 || pitch == 33 ? 1 : 0);
+            if (pitch == 63) {
+                solution(x, 0, 50, 3, 16, 15, -32, 7);
+            }
+            if (pitch == 33) {
+                solution(x, 0, 50, -29, 16, 15, -32, 39);
+            }
+        }
+    }
+
     // "x, y, z the same": one off in each
     static void alike_samePlace() {
         for (int what = 0; what < 3; what++) {
@@ -242,6 +260,72 @@ public final class EdgePlaceTest {
             Check.due("both", Check.told(lone(j, v, v)).solutions(), 1);
             Check.due("one less", Check.told(lone(j, v - 1, v - 1)).solutions(), 0);
             Check.due("one more", Check.told(lone(j, v + 1, v + 1)).solutions(), 0);
+        }
+    }
+
+    // "in the order of their JOINTS 0, then 1 and so on, the least first": RAIL at both ends of BOUNDS goes first
+    static void solutions_inOrder() {
+        SixJoints x = Check.told("link 24;limit 3 -1 1;limit 5 0 63;rest 0 0 0 0 16 0;");
+        Check.due("solutions", x.solutions(), 4);
+        solution(x, 0, 0, -32, -32, 0, -16, 32);
+        solution(x, 1, 0, 0, 0, 0, 16, 0);
+        solution(x, 2, 96, -32, 0, 0, 16, 32);
+        solution(x, 3, 96, 0, -32, 0, -16, 0);
+        SixJoints y = Check.told("link 24;limit 3 -1 1;limit 5 0 63;rest 99 0 -32 0 -16 7;");
+        Check.due("solutions", y.solutions(), 4);
+        solution(y, 0, 3, -32, -32, 0, -16, 39);
+        solution(y, 1, 3, 0, 0, 0, 16, 7);
+        solution(y, 2, 99, -32, 0, 0, 16, 39);
+        solution(y, 3, 99, 0, -32, 0, -16, 7);
+        // one TURN: then SHOULDER, ELBOW, ROLL
+        SixJoints z = Check.told("limit 1 16 16;rest 3 16 4 8 2 10;");
+        Check.due("solutions", z.solutions(), 4);
+        solution(z, 0, 3, 16, 4, 8, 2, -54);
+        solution(z, 1, 3, 16, 4, 8, 2, 10);
+        solution(z, 2, 3, 16, 12, -8, 10, -54);
+        solution(z, 3, 3, 16, 12, -8, 10, 10);
+    }
+
+    // by one SHOULDER two ELBOWS hold the same z: straight out and back along the rail
+    static void solutions_elbowInOrder() {
+        // A 0, B 0 or -32: OUT is 98000 or 0, and RAIL makes that good
+        SixJoints x = Check.told("link 49;limit 1 0 0;limit 2 0 0;limit 5 0 63;rest 0 0 0 0 16 0;");
+        Check.due("solutions", x.solutions(), 2);
+        solution(x, 0, 0, 0, 0, 0, 16, 0);
+        solution(x, 1, 98, 0, 0, -32, -16, 0);
+    }
+
+    // an AIM whose numbers are all 0, behind another one
+    static void solutions_ofAllZeros() {
+        SixJoints x = Check.told("link 5;hand 10;height 10;limit 5 0 63;rest 0 0 0 0 0 0;");
+        Check.due("some", x.solutions() > 0, true);
+        for (int what = 0; what < 6; what++) {
+            x.aimBy(what, 0);
+        }
+        // z 0: both links straight down by 10000, PITCH 0, OUT 10000: RAIL -10
+        Check.due("none", x.solutions(), 0);
+        Check.due("RAIL is below 0", x.why(), 2);
+        x.aimBy(0, 10000000);
+        Check.due("RAIL 0", x.solutions() > 0, true);
+        Check.due("SHOULDER", x.solution(0, 0), 0);
+        x.undo();
+        Check.due("none", x.solutions(), 0);
+    }
+
+    // an AIM that is another one in all six numbers, or in one of them alone
+    static void solutions_ofAnotherAim() {
+        SixJoints x = Check.told("limit 1 1 31;limit 2 4 4;limit 3 1 31;limit 5 0 63;spot a 3 16 4 8 2 10;spot b 5 15 4 7 1 11;");
+        for (int i = 0; i < 4; i++) {
+            x.aimAt(i % 2);
+            Check.due("solutions", x.solutions(), 1);
+            Check.due("RAIL", x.solution(0, 0), i % 2 == 0 ? 3 : 5);
+        }
+        x.aimAt(0);
+        for (int what = 0; what < 6; what++) {
+            x.aimBy(what, x.aim(what) ^ 1);
+            Check.due("another aim(" + what + ")", x.solution(0, 5), what == 5 ? 11 : -99);
+            x.undo();
+            Check.due("as it was", x.solution(0, 5), 10);
         }
     }
 

@@ -308,6 +308,26 @@ public final class EdgeRouteTest {
         Check.due("without a WAY", new SixJoints().by(false, 0), -1);
     }
 
+    // a ROUTE of no TICKS is one: it goes by the SOLUTION that NOW is
+    static void p24_byNoTicks() {
+        int[][] postures = {{3, -16, 20, 8, -10, 42}, {3, -16, 28, -8, -2, 42}, {3, 16, 4, 8, 2, 10}, {3, 16, 12, -8, 10, 10}};
+        for (int k = 0; k < 4; k++) {
+            SixJoints x = Check.told("limit 5 0 63;rest" + numbers(postures[k]) + ";spot a 3 16 4 8 2 10;go a;go a;");
+            for (boolean steady : new boolean[] {false, true}) {
+                Check.due("route", x.route(steady), 0);
+                Check.due("by", x.by(steady, 0), k);
+                Check.due("by", x.by(steady, 1), k);
+                Check.due("at", x.at(steady, 0, 1), postures[k][1]);
+                Check.due("blended", x.blended(steady, 2, 1), 5 * postures[k][1]);
+                Check.due("blended", x.blended(steady, -2, 1), 5 * postures[k][1]);
+                Check.due("blended", x.blended(steady, 3, 1), -9999);
+                Check.due("misses", x.misses(steady, 1, 1), 0);
+                Check.due("roundest", x.roundest(steady, 0), 9);
+                Check.due("clear", x.clear(steady), 707);
+            }
+        }
+    }
+
     // "a JOINT at tick t (of 0 .. all); -99: no such ROUTE, tick, JOINT"
     static void p25_at() {
         SixJoints x = rails("", 0, 4, 8);
@@ -360,6 +380,14 @@ public final class EdgeRouteTest {
         // 60, 56, 48, 41, 39, 42, 44, 45
         Check.due("BLENDED", x.fastest(false, 0, true), 8);
         Check.due("ROLL", x.fastest(false, 5, false), 3);
+        // the same way back: the greatest is near the end
+        SixJoints back = Check.told(LONE + "blend 1;rest 15 16 4 8 2 19;spot a 12 16 4 8 2 10;spot b 20 16 4 8 2 10;go a;go b;");
+        Check.due("STEPS, upwards", back.fastest(false, 0, false), 4);
+        Check.due("BLENDED", back.fastest(false, 0, true), 8);
+        // at the very end: 5, 5, 5, 5, 9 and blend 4
+        SixJoints late = Check.told(LONE + "blend 4;rest 5 16 4 8 2 10;spot a 5 16 4 8 2 26;spot b 9 16 4 8 2 26;go a;go b;");
+        Check.due("route", late.route(false), 5);
+        Check.due("BLENDED", late.fastest(false, 0, true), 4);
         // the first t and the last one count: one step alone
         for (int blend = 0; blend <= 9; blend++) {
             SixJoints y = rails("blend " + blend + ";", 1, 4);
@@ -497,6 +525,24 @@ public final class EdgeRouteTest {
         Check.due("9 alone", rails("", 24, 16, 12, 19, 15, 14, 8).roundest(false, 5), 9);
     }
 
+    // NOW is no CORNER: it goes slower and slower, so that BLENDED is off by 1 at each spot, by 4 where it starts
+    static void p29_roundestNotOfNow() {
+        SixJoints x = rails("blend 1;", 0, 4, 7, 9, 10);
+        int[] misses = {1, 1, 1, 1};
+        for (int i = 0; i < 4; i++) {
+            Check.due("misses(" + i + ")", x.misses(false, i, 0), misses[i]);
+        }
+        Check.due("m 0", x.roundest(false, 0), 0);
+        // by blend 2 off by 0, 5, 5, 4 of 5; by blend 3 the second one by 9 of 7, and more by more
+        Check.due("m 1", x.roundest(false, 1), 2);
+        // behind a WAY of more spots
+        SixJoints y = rails("", 50, 0, 50, 0, 50, 0, 50);
+        y.roundest(false, 1);
+        Check.tell(y, LONE + "rest 0 16 4 8 2 10;spot a 4 16 4 8 2 10;spot b 7 16 4 8 2 10;spot c 9 16 4 8 2 10;"
+            + "spot d 10 16 4 8 2 10;go a;go b;go c;go d;");
+        Check.due("m 1 behind another TEXT", y.roundest(false, 1), 2);
+    }
+
     // "m 0 .. 99"; "-2, -3 as route(); NONE: no such m": NONE first
     static void p29_roundestNone() {
         SixJoints fine = rails("", 10, 14);
@@ -577,6 +623,10 @@ public final class EdgeRouteTest {
         Check.due("stays", rails("", 5, 5).travel(true), 0);
         Check.due("without a WAY", rails("", 5).travel(true), 0);
         Check.due("there and back", rails("", 5, 9, 5).travel(true), 8000000L);
+        // z alone counts 1000 times: the hand from 8 below to 8 above, in two ticks, then back
+        SixJoints up = Check.told("limit 0 0 0;limit 1 0 0;limit 2 0 0;limit 3 0 0;limit 5 0 31;speed 4 8;rest 0 0 0 0 -8 0;"
+            + "spot a 0 0 0 0 8 0;spot b 0 0 0 0 -8 0;go a;go b;");
+        Check.due("up and down", up.travel(false), 4 * 1000L * 4 * 707 + 4 * 1000L * 4 * 293);
         SixJoints x = Check.told(LONE + "rest 0 16 4 8 2 10;spot a 99 16 4 8 2 10;spot b 0 16 4 8 2 10;"
             + "go a;go b;go a;go b;go a;go b;go a;go b;go a;go b;");
         Check.due("990 rails", x.travel(false), 990000000L);
@@ -602,6 +652,21 @@ public final class EdgeRouteTest {
         for (int i = 0; i < 8; i++) {
             Check.due("stop(" + i + ")", y.stop(i), i);
         }
+    }
+
+    // from NOW: another one, another TEXT, back
+    static void p32_tourFromNow() {
+        SixJoints x = Check.told("speed 0 1;rest 50 0 0 0 0 0;spot a 60 0 0 0 0 0;spot b 41 0 0 0 0 0;");
+        Check.due("tour", x.tour(), 28);
+        Check.due("stop(0)", x.stop(0), 1);
+        x.set(0, 55);
+        Check.due("stop(0) ahead of tour()", x.stop(0), 0);
+        Check.due("tour", x.tour(), 24);
+        Check.due("again", x.tour(), 24);
+        x.undo();
+        Check.due("tour", x.tour(), 28);
+        Check.tell(x, "speed 0 2;rest 50 0 0 0 0 0;spot a 60 0 0 0 0 0;spot b 41 0 0 0 0 0;");
+        Check.due("another TEXT, the same NOW", x.tour(), 15);
     }
 
     // "of several orders the first one by numbers of spots"

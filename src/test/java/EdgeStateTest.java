@@ -174,6 +174,140 @@ public final class EdgeStateTest {
         Check.due("call 505", z.solutions(), 264);
     }
 
+    private static final String[] TEXTS = {"",
+        "link 7;hand 3;height 12;blend 4;seed 9;limit 1 -20 31;limit 5 0 63;speed 0 9;rest 3 16 4 8 2 10;spot a 5 16 4 8 2 12;"
+            + "spot b 9 10 4 -8 2 12;spot c 1 3 4 8 2 1;go a;go b;go a;go c;",
+        "limit 5 0 63;rest 3 16 4 8 2 10;spot b 5 16 4 8 2 12;spot a 7 10 4 8 2 12;go b;go a;",
+        "limit 5 0 63;limit 3 1 31;speed 1 1;rest 3 16 4 8 2 10;spot b 5 16 4 8 2 12;spot a 7 10 4 8 2 12;go b;go a;",
+        "rest 5 7 3 -32 -19 0;spot m 5 7 3 -32 -19 0;spot a 1 1 1 1 1 1;go m;",
+        "limit 0 0 49;rest 3 16 4 8 2 10;spot n 50 16 4 8 2 10;go n;",
+        "spot a 90 0 0 0 0 0;spot b 1 0 0 0 0 0;spot c 80 0 0 0 0 0;spot d 9 0 0 0 0 0;spot e 70 0 0 0 0 0;spot f 20 0 0 0 0 9;"};
+
+    /** Every question there is, with a few numbers each (more than 512 calls, but the class does not count them). */
+    private static long[] answers(SixJoints x) {
+        java.util.ArrayList<Long> all = new java.util.ArrayList<>();
+        for (int i = -1; i < 9; i++) {
+            all.add((long) x.count(i));
+            all.add((long) x.fault(i));
+            all.add(x.hand(i));
+            all.add((long) x.now(i));
+            all.add(x.aim(i));
+            all.add((long) x.named(i << 25));
+            all.add((long) x.meets(i));
+            all.add((long) x.stop(i));
+            for (int k = 0; k < 6; k++) {
+                all.add((long) x.spot(i, k));
+                all.add((long) x.solution(i, k));
+                all.add((long) x.way(i, k));
+                all.add((long) x.step(i, 1, k));
+            }
+        }
+        all.add((long) x.solutions());
+        all.add((long) x.why());
+        all.add((long) x.clearest());
+        all.add((long) x.tour());
+        all.add((long) x.reach(5, 0));
+        all.add((long) x.reach(5, 1));
+        all.add((long) x.reach(5, 2));
+        all.add((long) x.high(3000));
+        for (int j = 0; j < 6; j++) {
+            for (int what = 0; what < 4; what++) {
+                all.add((long) x.joint(j, what));
+                all.add((long) x.chance(-1, 20, what));
+            }
+            all.add((long) x.free(j, true));
+            all.add((long) x.free(j, false));
+        }
+        for (boolean steady : new boolean[] {true, false}) {
+            all.add((long) x.nearest(steady));
+            all.add((long) x.route(steady));
+            all.add((long) x.slow(steady));
+            all.add((long) x.clear(steady));
+            all.add(x.travel(steady));
+            for (int i = -1; i < 11; i++) {
+                all.add((long) x.by(steady, i));
+                all.add((long) x.roundest(steady, i));
+                all.add((long) x.changes(steady, i));
+                for (int j = 0; j < 6; j++) {
+                    all.add((long) x.at(steady, i, j));
+                    all.add((long) x.blended(steady, i, j));
+                    all.add((long) x.misses(steady, i, j));
+                    all.add((long) x.fastest(steady, j, i > 0));
+                }
+            }
+        }
+        long[] row = new long[all.size()];
+        for (int i = 0; i < row.length; i++) {
+            row[i] = all.get(i);
+        }
+        return row;
+    }
+
+    private static void same(String what, long[] got, long[] want) {
+        for (int i = 0; i < want.length; i++) {
+            Check.due(what + ", question " + i, got[i], want[i]);
+        }
+    }
+
+    // promise 3: of TEXTS ahead nothing is left, told well or with a FAULT, whatever has been asked by then
+    static void text_nothingIsLeftOfOneAhead() {
+        for (String first : TEXTS) {
+            for (String second : TEXTS) {
+                long[] due = answers(Check.told(second));
+                SixJoints x = Check.told(first);
+                answers(x);
+                Check.tell(x, second);
+                same("behind another TEXT", answers(x), due);
+                SixJoints y = Check.told(first);
+                Check.tell(y, first);
+                answers(y);
+                Check.tell(y, second);
+                same("behind two others", answers(y), due);
+                Check.tell(y, "link 5;limit 0 3 3;seed 5;spot q 1 1 1 1 1 1;go q;go r");
+                Check.due("a FAULT", y.fault(0), 4);
+                Check.tell(y, second);
+                same("behind a FAULT", answers(y), due);
+            }
+        }
+    }
+
+    // promise 3: a FAULT leaves all answers but those of fault() as they are
+    static void text_faultChangesNoAnswer() {
+        for (String text : TEXTS) {
+            SixJoints x = Check.told(text);
+            Check.tell(x, "go r");
+            long[] due = answers(x);
+            Check.tell(x, "rest 1 1 1 1 1 1;link 5;limit 0 3 3;seed 5;spot q 1 1 1 1 1 1;go q;link");
+            Check.due("fault", x.fault(0), 3);
+            Check.tell(x, "go r");
+            same("behind a FAULT", answers(x), due);
+        }
+    }
+
+    // no question changes an answer: asked twice, and behind what is undone
+    static void questions_changeNothing() {
+        for (String text : TEXTS) {
+            SixJoints x = Check.told(text);
+            long[] once = answers(x);
+            same("asked twice", answers(x), once);
+            x.set(0, 11);
+            x.aimBy(2, 12345);
+            answers(x);
+            x.aimAt(-1);
+            answers(x);
+            x.undo();
+            x.undo();
+            x.undo();
+            same("undone", answers(x), once);
+            x.keep();
+            x.set(1, 9);
+            x.aimAt(-1);
+            answers(x);
+            x.back();
+            same("back", answers(x), once);
+        }
+    }
+
     // ---- promises 37, 38
 
     // "By a PITCH 0 .. 63", what 0 .. 2; "NONE: no such ones"
@@ -259,6 +393,40 @@ public final class EdgeStateTest {
         Check.due("OUT -22000", y.high(-22000), 10000);
         Check.due("one more", y.high(-21999), NONE_THERE);
         Check.due("one less", y.high(-22001), 10000);
+    }
+
+    // straight up, straight down, a WRIST that serves one way alone
+    static void p38_highByHand() {
+        SixJoints down = Check.told("height 50;limit 2 -16 -16;limit 3 0 0;limit 4 0 0;");
+        Check.due("straight down", down.high(0), 50000 - 22000);
+        Check.due("straight down", down.high(-1), 50000 - 22000);
+        Check.due("one beyond", down.high(1), NONE_THERE);
+        SixJoints up = Check.told("height 50;limit 2 16 16;limit 3 0 0;limit 4 0 0;");
+        Check.due("straight up", up.high(0), 50000 + 22000);
+        Check.due("one beyond", up.high(1), NONE_THERE);
+        // links level, B 0: the hand leans from straight up by WRIST 17 and more, or by 15 and less
+        SixJoints back = Check.told("limit 2 0 0;limit 3 0 0;limit 4 17 31;");
+        Check.due("back by one", back.high(18000 - 4 * 98), 10000 + 4 * 995);
+        Check.due("one beyond", back.high(18000 - 4 * 98 + 1), NONE_THERE);
+        SixJoints on = Check.told("limit 2 0 0;limit 3 0 0;limit 4 -32 15;");
+        Check.due("on by one", on.high(18000 + 4 * 98), 10000 + 4 * 995);
+        Check.due("by two", on.high(18000 + 4 * 98 + 1), 10000 + 4 * 981);
+        Check.due("farthest", on.high(22000), 10000);
+        Check.due("one beyond", on.high(22001), NONE_THERE);
+        // of two that are almost as high the higher one
+        Check.due("by 10", Check.told("link 1;hand 99;height 1;limit 2 15 16;limit 3 0 0;limit 4 0 1;").high(-5000), 102000);
+        Check.due("by 10", Check.told("link 1;hand 99;height 1;limit 2 16 17;limit 3 0 0;limit 4 -1 0;").high(-5000), 102000);
+        // B 5 and B -5, the same lean of the hand
+        for (int b : new int[] {5, -5}) {
+            int cosine = 882;
+            int rise = b > 0 ? 471 : -471;
+            SixJoints x = Check.told("limit 2 " + b + " " + b + ";limit 3 0 0;limit 4 " + (17 - b) + " " + (17 - b) + ";");
+            Check.due("back by one, B " + b, x.high(18 * cosine - 4 * 98), 10000 + 18 * rise + 4 * 995);
+            Check.due("one beyond", x.high(18 * cosine - 4 * 98 + 1), NONE_THERE);
+            SixJoints y = Check.told("limit 2 " + b + " " + b + ";limit 3 0 0;limit 4 " + (15 - b) + " " + (15 - b) + ";");
+            Check.due("on by one, B " + b, y.high(18 * cosine + 4 * 98), 10000 + 18 * rise + 4 * 995);
+            Check.due("one beyond", y.high(18 * cosine + 4 * 98 + 1), NONE_THERE);
+        }
     }
 
     // ---- promises 40 to 43
