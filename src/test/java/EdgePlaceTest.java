@@ -760,6 +760,17 @@ public final class EdgePlaceTest {
         }
     }
 
+    // one number within each limit: the same POSTURE however it is drawn, and its PLACE is held by it alone
+    static void p39_oneNumberEach() {
+        SixJoints x = Check.told(lone(-1, 0, 0));
+        for (int n : new int[] {1, 2, 19, 20}) {
+            int[] due = {0, n, n, 0};
+            for (int what = 0; what < 4; what++) {
+                Check.due("chance(7, " + n + ", " + what + ")", x.chance(7, n, what), due[what]);
+            }
+        }
+    }
+
     // "0 how many have a PLACE with TOO MANY, 1 SOLUTIONS of the others in all, 2 how many of the others": at 600, 601
     static void p39_tooMany() {
         // folded up, PITCH 16 by TURN 0, SHOULDER -32 .. 31 and WRIST that fits: of all that are drawn a few

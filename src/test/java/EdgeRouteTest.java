@@ -602,6 +602,14 @@ public final class EdgeRouteTest {
         }
     }
 
+    // by one a tick, each way
+    static void p30_changesOfSlowRoll() {
+        SixJoints x = Check.told(LONE + "speed 5 1;rest 0 16 4 8 2 10;spot a 0 16 4 8 2 12;spot b 0 16 4 8 2 11;spot c 0 16 4 8 2 13;"
+            + "go a;go b;go c;");
+        Check.due("route", x.route(false), 2 + 1 + 2);
+        Check.due("to and fro", x.changes(false, 2), 2);
+    }
+
     // "-2, -3 as route(); NONE for another what": NONE first
     static void p30_changesNone() {
         SixJoints fine = rails("", 10, 14);
@@ -623,7 +631,11 @@ public final class EdgeRouteTest {
         Check.due("stays", rails("", 5, 5).travel(true), 0);
         Check.due("without a WAY", rails("", 5).travel(true), 0);
         Check.due("there and back", rails("", 5, 9, 5).travel(true), 8000000L);
-        // z alone counts 1000 times: the hand from 8 below to 8 above, in two ticks, then back
+        // z alone counts 1000 times: the hand from 8 below to 8 above, in two ticks
+        SixJoints once = Check.told("limit 0 0 0;limit 1 0 0;limit 2 0 0;limit 3 0 0;limit 5 0 31;speed 4 8;rest 0 0 0 0 -8 0;"
+            + "spot a 0 0 0 0 8 0;go a;");
+        Check.due("up", once.travel(false), 2 * 1000L * 4 * 707 + 2 * 1000L * 4 * 293);
+        // and back
         SixJoints up = Check.told("limit 0 0 0;limit 1 0 0;limit 2 0 0;limit 3 0 0;limit 5 0 31;speed 4 8;rest 0 0 0 0 -8 0;"
             + "spot a 0 0 0 0 8 0;spot b 0 0 0 0 -8 0;go a;go b;");
         Check.due("up and down", up.travel(false), 4 * 1000L * 4 * 707 + 4 * 1000L * 4 * 293);

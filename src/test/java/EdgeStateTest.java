@@ -369,6 +369,10 @@ public final class EdgeStateTest {
         Check.due("ELBOW 5", Check.told("limit 3 5 5;").reach(9, 2), 64);
         Check.due("ELBOW 5, WRIST to 0", Check.told("limit 3 5 5;limit 4 -32 0;").reach(9, 2), 33);
         Check.due("ELBOW 5, WRIST to -1", Check.told("limit 3 5 5;limit 4 -32 -1;").reach(9, 2), 32);
+        // all of them: 2080 pairs of 64 angles, whichever goes first, of which the 32 that are folded up are one
+        for (int pitch : new int[] {0, 16, 63}) {
+            Check.due("all", new SixJoints().reach(pitch, 2), 2080 - 32 + 1);
+        }
         // each ELBOW and the same the other way come to the same pairs
         Check.due("ELBOW -5 .. 5", Check.told("limit 3 -5 5;").reach(9, 2), 64 * 6);
     }
